@@ -538,7 +538,7 @@ public final class QuarterWalks {
         }
         for (int i = 0; i < set; i++) {
             StepSet o = book.find(i);
-            if (o != null && areAlike(o, s)) {
+            if (o != null && areAlike(terms(o), terms(s))) {
                 return i;
             }
         }
@@ -659,9 +659,10 @@ public final class QuarterWalks {
         return true;
     }
 
-    private boolean areAlike(StepSet s, StepSet o) {
+    /** SERIES anywhere stand first among all terms. */
+    private static boolean areAlike(int[] terms, int[] others) {
         for (int n = 0; n <= 20; n++) {
-            if (term(s, 0, n) != term(o, 0, n)) {
+            if (terms[n] != others[n]) {
                 return false;
             }
         }
@@ -1242,10 +1243,11 @@ public final class QuarterWalks {
         /** Only where walks have been can anything but 0 stand. */
         private void wipe() {
             for (int x = reach.left; x <= reach.right; x++) {
-                int from = cell(x, reach.bottom);
-                int to = cell(x, reach.top) + 1;
-                Arrays.fill(now, from, to, 0L);
-                Arrays.fill(next, from, to, 0L);
+                int to = cell(x, reach.top);
+                for (int i = cell(x, reach.bottom); i <= to; i++) {
+                    now[i] = 0;
+                    next[i] = 0;
+                }
             }
         }
 
