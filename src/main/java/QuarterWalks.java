@@ -21,6 +21,7 @@ public final class QuarterWalks {
     private static final int[] DX = {0, 1, 1, 1, 0, -1, -1, -1};
     private static final int[] DY = {1, 1, 0, -1, -1, -1, 0, 1};
     private static final int[] MIRRORED = {2, 1, 0, 7, 6, 5, 4, 3};
+    private static final int[] OPPOSITE = {4, 5, 6, 7, 0, 1, 2, 3};
     private static final int[] X_LESS = {0, 7, 6, 5, 4, 3, 2, 1};
     private static final int[] Y_LESS = {4, 3, 2, 1, 0, 7, 6, 5};
     /** Two signs a STEP, so that no array of texts is needed. */
@@ -105,32 +106,12 @@ public final class QuarterWalks {
 
     public int mirror(int set) {
         StepSet s = book.find(set);
-        if (s == null) {
-            return refuse(WRONG_SET);
-        }
-        if (book.isFull()) {
-            return refuse(FULL);
-        }
-        int[] weights = new int[STEPS];
-        for (int k = 0; k < STEPS; k++) {
-            weights[MIRRORED[k]] = s.weights[k];
-        }
-        return book.add(new StepSet(weights, s.startY, s.startX));
+        return s == null ? refuse(WRONG_SET) : addMoved(s, MIRRORED, s.startY, s.startX);
     }
 
     public int turn(int set) {
         StepSet s = book.find(set);
-        if (s == null) {
-            return refuse(WRONG_SET);
-        }
-        if (book.isFull()) {
-            return refuse(FULL);
-        }
-        int[] weights = new int[STEPS];
-        for (int k = 0; k < STEPS; k++) {
-            weights[(k + 4) % STEPS] = s.weights[k];
-        }
-        return book.add(new StepSet(weights, s.startX, s.startY));
+        return s == null ? refuse(WRONG_SET) : addMoved(s, OPPOSITE, s.startX, s.startY);
     }
 
     public int join(int set, int other) {
@@ -633,6 +614,18 @@ public final class QuarterWalks {
     private int refuse(int why) {
         refused[why]++;
         return NONE;
+    }
+
+    /** A SET each STEP of which has become another one comes to the BOOK. */
+    private int addMoved(StepSet s, int[] becomes, int startX, int startY) {
+        if (book.isFull()) {
+            return refuse(FULL);
+        }
+        int[] weights = new int[STEPS];
+        for (int k = 0; k < STEPS; k++) {
+            weights[becomes[k]] = s.weights[k];
+        }
+        return book.add(new StepSet(weights, startX, startY));
     }
 
     private int[] terms(StepSet s) {

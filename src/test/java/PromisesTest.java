@@ -64,6 +64,10 @@ public final class PromisesTest {
         due("2 nothing more", q.feed(0, 0, 0, 0, 0), 200);
         q.end(199);
         due("2 201 would be more", q.feed(0x6E650000, 0, 0, 0, 0), NONE);
+        due("2 so by the second", q.feed(0, 0x6E650000, 0, 0, 0), NONE);
+        due("2 by the third", q.feed(0, 0, 0x6E00, 0, 0x65), NONE);
+        due("2 by the fourth", q.feed(0, 0, 0, 0x6E006500, 0), NONE);
+        due("2 by the fifth", q.feed(0, 0, 0, 0, 0x6E000065), NONE);
         due("2 none of them came", q.count(0), 199);
         due("2 200 is not more", q.feed(0, 0, 0x00006E00, 0, 0), 200);
         due("4 a word at the very end", q.fault(), NONE);
@@ -501,6 +505,14 @@ public final class PromisesTest {
         for (int set = 0; set < enough.length; set++) {
             due("39 enough " + set, less.enough(set), enough[set]);
         }
+        // By e and sw alone y goes below 0 after 12 STEPS from the one, after 13 from the other.
+        QuarterWalks edge = Check.with("e sw; from 8 9", "e sw; from 7 9");
+        due("39 not by the 12th", edge.enough(0), 0);
+        due("39 the 13th doesn't count", edge.enough(1), 2);
+        // From (0, 9) after 20: till then they are as many as by e and w.
+        QuarterWalks late = Check.with("e w", "e sw; from 0 9", "e w; from 0 9", "e sw; from 1 9");
+        due("40 unlike by the 20th", late.alike(1), 1);
+        due("40 alike", late.alike(2), 0);
         QuarterWalks same = Check.with("n", "e", "n 2", "ne; from 3 3", "n; from 0 1", "w; from 9 0", "w 2; from 9 0");
         int[] alike = {0, 0, 2, 0, 0, 5, 6};
         for (int set = 0; set < alike.length; set++) {
