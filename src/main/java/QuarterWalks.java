@@ -463,7 +463,9 @@ public final class QuarterWalks {
 
     public int orbit(int set, int x, int y, int k, int what) {
         StepSet s = book.find(set);
-        if (s == null || !isUnit(x) || !isUnit(y) || !within(what, 0, 1)) {
+        // What is told of the k-th pair alone: how many pairs has no what that could be wrong.
+        boolean isFitting = k == NONE || within(what, 0, 1);
+        if (s == null || !isUnit(x) || !isUnit(y) || !isFitting) {
             return NO_SUCH;
         }
         int pairs = turns.follow(s, x, y);

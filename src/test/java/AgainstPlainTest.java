@@ -145,7 +145,7 @@ public final class AgainstPlainTest {
             CHECK.due(name(p, "turned", x, y, 1), q.turned(set, x, y, 1), p.turned(x, y, 1));
             CHECK.due(name(p, "sum", x, y), q.sum(set, x, y), p.sum(x, y));
             List<int[]> pairs = p.orbit(x, y);
-            CHECK.due(name(p, "orbit", x, y, -1), q.orbit(set, x, y, -1, i % 2), pairs == null ? -1 : pairs.size());
+            CHECK.due(name(p, "orbit", x, y, -1), q.orbit(set, x, y, -1, i - 4), pairs == null ? -1 : pairs.size());
             for (int k = 0; pairs != null && k < pairs.size(); k++) {
                 CHECK.due(name(p, "orbit", x, y, k, 0), q.orbit(set, x, y, k, 0), pairs.get(k)[0]);
                 CHECK.due(name(p, "orbit", x, y, k, 1), q.orbit(set, x, y, k, 1), pairs.get(k)[1]);

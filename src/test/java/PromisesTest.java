@@ -483,6 +483,17 @@ public final class PromisesTest {
         due("35 what -1", q.orbit(1, 2, 3, 0, -1), -2);
         due("35 none, whatever pair", q.orbit(3, 2, 3, 9, 0), NONE);
         due("35 none, but what first", q.orbit(3, 2, 3, 0, 2), -2);
+        due("35 none, whatever pair ahead", q.orbit(3, 2, 3, -2, 1), NONE);
+        for (int what : new int[] {-1, 2, 3, LOW, Integer.MAX_VALUE}) {
+            due("35 how many, what " + what, q.orbit(1, 2, 3, -1, what), 6);
+            due("35 how many of none, what " + what, q.orbit(3, 2, 3, -1, what), NONE);
+            due("35 how many of an endless one, what " + what, q.orbit(4, 2, 3, -1, what), NONE);
+            due("35 no such set, what " + what, q.orbit(7, 2, 3, -1, what), -2);
+            due("35 no such x, what " + what, q.orbit(1, 0, 3, -1, what), -2);
+            due("35 no such y, what " + what, q.orbit(1, 2, 1000003, -1, what), -2);
+            due("35 the first, what " + what, q.orbit(1, 2, 3, 0, what), -2);
+            due("35 beyond, what " + what, q.orbit(4, 2, 3, 40, what), -2);
+        }
         due("35 at 1 1 all stay, yet a turn 1 ends it", q.orbit(0, 1, 1, -1, 0), 2);
         due("37 all the same", q.sum(0, 1, 1), 0);
         // (x - 1/x) (y - 1/y) of 2, 3: 3/2 * 8/3
