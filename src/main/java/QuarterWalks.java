@@ -643,10 +643,10 @@ public final class QuarterWalks {
 
     private boolean isHalfEnough(StepSet s, int half) {
         // Reckoned first: it would use the grid that is walked on here.
-        terms(s);
+        int[] inQuarter = terms(s);
         grid.open(s, Grid.MODULO, half);
         for (int n = 0; n <= 12; n++) {
-            if (grid.total() != term(s, 0, n)) {
+            if (grid.total() != inQuarter[n]) {
                 return false;
             }
             grid.advance(1);
