@@ -223,11 +223,7 @@ public final class AgainstPlainTest {
             "e w ne sw", "n e w s 2; from 1 0", "ne; from 0 3"};
         for (String text : texts) {
             QuarterWalks q = Check.with(text);
-            int[] w = new int[8];
-            for (int k = 0; k < 8; k++) {
-                w[k] = q.rule(0, k);
-            }
-            Plain p = new Plain(w, q.rule(0, 10), q.rule(0, 11));
+            Plain p = Plain.of(q);
             for (int kind = 0; kind < 5; kind++) {
                 for (int which = 0; which < 2; which++) {
                     CHECK.due(name(p, "least", kind, which), q.least(0, kind, which), p.least(kind, which));

@@ -25,6 +25,15 @@ final class Plain {
         this.sy = sy;
     }
 
+    /** As the first SET of a BOOK. */
+    static Plain of(QuarterWalks q) {
+        int[] w = new int[8];
+        for (int k = 0; k < 8; k++) {
+            w[k] = q.rule(0, k);
+        }
+        return new Plain(w, q.rule(0, 10), q.rule(0, 11));
+    }
+
     static Plain random(Random r) {
         int[] w = new int[8];
         int most = r.nextInt(4) == 0 ? 9 : r.nextInt(3) + 1;
