@@ -69,20 +69,26 @@ public final class EdgesOfActsTest {
         return Check.with("n", "e 9 w 2; from 3 4", "s 5 ne 5", "w", "n", "ne 2 sw 3; from 0 9", "nw", "se 4; from 9 0");
     }
 
+    /** With that text on its TAPE. */
+    private static QuarterWalks fed(QuarterWalks q, String text) {
+        Check.feed(q, text);
+        return q;
+    }
+
     private static void refusedOfNone(String call, int why, ToIntFunction<QuarterWalks> act) {
-        Look.refused(CHECK, call + " of an empty book", why, EdgesOfActsTest::empty, act);
+        Look.refused(CHECK, call + " of an empty book", why, () -> fed(empty(), "e 3 ?"), act);
     }
 
     private static void refusedOfOne(String call, int why, ToIntFunction<QuarterWalks> act) {
-        Look.refused(CHECK, call + " of one", why, EdgesOfActsTest::one, act);
+        Look.refused(CHECK, call + " of one", why, () -> fed(one(), "e 3 ?"), act);
     }
 
     private static void refusedOfThree(String call, int why, ToIntFunction<QuarterWalks> act) {
-        Look.refused(CHECK, call + " of three", why, EdgesOfActsTest::three, act);
+        Look.refused(CHECK, call + " of three", why, () -> fed(three(), "e 3 ?"), act);
     }
 
     private static void refusedOfEight(String call, int why, ToIntFunction<QuarterWalks> act) {
-        Look.refused(CHECK, call + " of eight", why, EdgesOfActsTest::eight, act);
+        Look.refused(CHECK, call + " of eight", why, () -> fed(eight(), "e 3 ?"), act);
     }
 
     /** No such SET: of an empty BOOK, of one of three, of one of eight. */
@@ -113,23 +119,23 @@ public final class EdgesOfActsTest {
 
     private static void tellRefused() {
         CHECK.by("5 NONE: a FAULT (STATUS 0); the TAPE stays");
-        refusedOfNone("tell of an empty tape", NO_SET, q -> q.tell());
-        refusedOfEight("tell of an empty tape", NO_SET, q -> q.tell());
-        for (String text : new String[] {" ", "x", "n n", "n 0", "n 10", "n;", "n;from 1", "n;from 1 2 3"}) {
+        Look.refused(CHECK, "tell of an empty tape and book", NO_SET, EdgesOfActsTest::empty, q -> q.tell());
+        String full = " ".repeat(199);
+        for (String text : new String[] {"", " ", "x", "n n", "n 0", "n 10", "n;", "n;from 1", "n;from 1 2 3", full + "x",
+            full + " "}) {
+            CHECK.by("5 NONE: a FAULT (STATUS 0); the TAPE stays");
             Look.refused(CHECK, "tell '" + text + "'", NO_SET, () -> fed(one(), text), q -> q.tell());
             CHECK.by("5 a FAULT (STATUS 0), there are eight (2); of several the first");
             Look.refused(CHECK, "tell '" + text + "' of eight", NO_SET, () -> fed(eight(), text), q -> q.tell());
         }
     }
 
-    private static QuarterWalks fed(QuarterWalks q, String text) {
-        Check.feed(q, text);
-        return q;
-    }
-
     private static void tellFull() {
         CHECK.by("5 NONE: there are eight (2); the TAPE stays");
         Look.refused(CHECK, "tell of eight", EIGHT, () -> fed(eight(), "sw 7; from 1 2"), q -> q.tell());
+        String full = " ".repeat(199) + "n";
+        Look.refused(CHECK, "tell of eight, a full tape", EIGHT, () -> fed(eight(), full), q -> q.tell());
+        due("a full tape of seven", fed(seven(), full).tell(), 7);
         QuarterWalks q = fed(eight(), "sw 7; from 1 2");
         due("the ninth", q.tell(), NONE);
         due("a place for it", q.drop(0), 7);
@@ -371,10 +377,11 @@ public final class EdgesOfActsTest {
     }
 
     private static void undone(String name, ToIntFunction<QuarterWalks> act) {
-        QuarterWalks q = three();
+        QuarterWalks q = fed(three(), name.equals("tell") ? "" : "e 3 ?");
         Look ahead = new Look(q);
         CHECK.due(name, act.applyAsInt(q) >= 0, true);
         due(name + " can be undone", q.count(1), 4);
+        due(name + " has its own tape alone", q.count(0), name.equals("tell") ? 0 : 5);
         due(name + " undone", q.undo(), 3);
         CHECK.due(name + ": all as it was", new Look(q).isAs(ahead), true);
     }

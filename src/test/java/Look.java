@@ -34,9 +34,11 @@ final class Look {
         return Arrays.equals(state, other.state);
     }
 
-    /** Refused for the one reason why: STATUS tells it, and all else is as it was, for UNDO too. */
+    /** Refused for the one reason why: STATUS tells it, and all else is as it was, for undo and back too. */
     static void refused(Check check, String call, int why, Supplier<QuarterWalks> maker, ToIntFunction<QuarterWalks> act) {
         QuarterWalks q = maker.get();
+        QuarterWalks untried = maker.get();
+        check.due(call + ", ahead of it image", q.image(), untried.image());
         Look ahead = new Look(q);
         check.due(call, act.applyAsInt(q), NONE);
         Look behind = new Look(q);
@@ -44,10 +46,10 @@ final class Look {
         for (int k = 0; k < 4; k++) {
             check.due(call + " status " + k, behind.refusals[k], ahead.refusals[k] + (k == why ? 1 : 0));
         }
-        QuarterWalks untried = maker.get();
         check.due(call + ", then undo", q.undo(), untried.undo());
         check.due(call + ", then undo, all", new Look(q).isAs(new Look(untried)), true);
         check.due(call + ", then back", q.back(), untried.back());
+        check.due(call + ", then back, all", new Look(q).isAs(new Look(untried)), true);
     }
 
     /** It answers so, and nothing at all has changed. */
